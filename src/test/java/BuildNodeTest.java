@@ -90,7 +90,8 @@ public final class BuildNodeTest {
         check.due("a hundred and one", 101, () -> y.build(0, 0, 0));
         check.due("the hundredth", "4:0-0", () -> Check.node(y, 99));
         check.due("the last one", Check.INDEX, () -> y.node(100, 0));
-        WeightedTrees z = Check.parsed("S=AAAA 1 1\nA=BBBB 1 1\nB=CCCC 1 1\nC=DDDD 1 1\nD=EEEE 1 1\nE= 1 1\nE=a 1 1", "a");
+        WeightedTrees z = Check.parsed(
+                "S=AAAA 1 1\nA=BBBB 1 1\nB=CCCC 1 1\nC=DDDD 1 1\nD=EEEE 1 1\nE= 1 1\nE=a 1 1", "a");
         check.due("many nodes", 1365, () -> z.build(0, 0, 1));
         int[] rules = {0, 1, 2, 3, 4, 5, 5, 5, 5, 4, 5, 5, 5, 5, 4, 5, 5, 5, 5, 4, 5, 5, 5, 5, 3, 4};
         for (int k = 0; k < rules.length; k++) {

@@ -68,6 +68,7 @@ public final class EmptyUnitTest {
             {0, 1, 5},
             {0, 0, 1},
         });
+        unitsDue(Check.loaded("A=b 1 1\nS=aA 2 1\nS=Ab 2 1"), new long[][] {{1, 0}, {0, 1}});
         unitsDue(Check.loaded("S=SS 1 1\nS=a 1 1"), new long[][] {{1}});
         unitsDue(Check.loaded("C=D 2 1\nB=C 3 1\nA=B 1/3 1"), new long[][] {
             {1, 2, 0, 0},

@@ -13,6 +13,7 @@ public final class LoadTest {
         takesThePlaceOfTheOneBefore();
         wrongIsTheLatest();
         wrongGoesAheadOfLoops();
+        nothingIsLeftOfTheOneThatLooped();
         leavesAnEmptyDraft();
         check.end();
     }
@@ -115,6 +116,8 @@ public final class LoadTest {
         loopsWith("S=SSSS 1 1\nS= 1 1");
         loopsWith("S=SA 1 1\nA= 1 1");
         loopsWith("S=AS 1 1\nA= 0 1");
+        loopsWith("A= 1 1\nS=AS 1 1");
+        loopsWith("A=S 1 1\nB=A 1 1\nS=B 1 1");
         loopsWith("S=AASA 1 1\nA=BB 1 1\nB= 1 1");
         loopsWith("S=A 1 1\nA=B 1 1\nB=S 1 1");
         loopsWith("S=a 1 1\nB=C 1 1\nC=BD 1 1\nD= 1 1");
@@ -178,6 +181,17 @@ public final class LoadTest {
 
     private static void wrongGoesAheadOfLoops() {
         isWrong("S=S 1 1\nx", 2);
+    }
+
+    private static void nothingIsLeftOfTheOneThatLooped() {
+        WeightedTrees x = new WeightedTrees();
+        check.due("one that loops", Check.STATE, () -> Check.load(x, "S=A 1 1\nA=B 1 1\nB=S 1 1"));
+        check.due("one that does not", 3, () -> Check.load(x, "S=A 1 1\nA=B 1 1\nB=a 1 1"));
+        check.due("the other way round", 3, () -> Check.load(x, "B=A 1 1\nA=S 1 1\nS=a 1 1"));
+        check.due("with other bodies", 3, () -> Check.load(x, "S=a 1 1\nA=S 1 1\nB=A 1 1"));
+        check.due("one that loops again", Check.STATE, () -> Check.load(x, "S=S 1 1\nA=S 1 1"));
+        check.due("none that does", 1, () -> Check.load(x, "S=a 1 1"));
+        check.due("none that does either", 1, () -> Check.load(x, "S=aS 1 1"));
     }
 
     private static void leavesAnEmptyDraft() {

@@ -27,7 +27,8 @@ public final class NameWeightTest {
 
     private static void weights() {
         WeightedTrees x = Check.loaded(
-                "S=a 0 1\nS=a 999 1\nS=a 010 1\n#\nS=a 1/3 1\nS=a 2/5 1\nS=a 9/3 1\nS=a 8/001 1\nS=a 0/7 1\nS=a 10/999 1");
+                "S=a 0 1\nS=a 999 1\nS=a 010 1\n#\nS=a 1/3 1\nS=a 2/5 1\n"
+                + "S=a 9/3 1\nS=a 8/001 1\nS=a 0/7 1\nS=a 10/999 1");
         long[] due = {0, 999, 10, -6148914691236517205L, 2 * -3689348814741910323L, 3, 8, 0};
         for (int rule = 0; rule < due.length; rule++) {
             int r = rule;

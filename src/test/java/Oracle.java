@@ -14,7 +14,8 @@ final class Oracle {
     /** A tree with the lengths of the parts of all symbols of its body, and the trees of its nonterminals. */
     record Tree(int rule, int from, int to, long weight, int cost, List<Integer> lengths, List<Tree> below) {
         String nodes() {
-            StringBuilder nodes = new StringBuilder().append(' ').append(rule).append(':').append(from).append('-').append(to);
+            StringBuilder nodes = new StringBuilder();
+            nodes.append(' ').append(rule).append(':').append(from).append('-').append(to);
             for (Tree tree : below) {
                 nodes.append(tree.nodes());
             }
@@ -210,11 +211,20 @@ final class Oracle {
         return forest.count > most ? null : forest;
     }
 
-    /** The trees in which one t is a leaf are those for a letter that only t becomes; NULL if they are too many. */
+    /** The trees in which one t is a leaf are those for a letter that only t becomes; null if they are too many. */
     Long unit(int s, int t, int most) {
         Oracle more = new Oracle(this, new Rule(nonterminals.charAt(t), "*", 1, 0));
         Forest forest = more.forest("*", most);
         return forest == null ? null : Long.valueOf(forest.inside(s, 0, 1));
+    }
+
+    boolean unitsAreFew(int most) {
+        for (int t = 0; t < nonterminals.length(); t++) {
+            if (unit(0, t, most) == null) {
+                return false;
+            }
+        }
+        return true;
     }
 
     private static int compare(Tree a, Tree b) {

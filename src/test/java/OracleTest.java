@@ -1,12 +1,10 @@
-import java.util.Random;
-
 /** Many small grammars and texts, always the same ones, by the program and by the oracle. */
 public final class OracleTest {
     private static final int GRAMMARS = 4000;
-    private static final int MOST_TREES = 1500;
+    private static final int MOST_TREES = Model.MOST_TREES;
 
     private static final Check check = new Check();
-    private static final Random random = new Random(20261115);
+    private static final Samples samples = new Samples(20261115);
 
     private static int loaded = 0;
     private static int looping = 0;
@@ -16,7 +14,7 @@ public final class OracleTest {
 
     public static void main(String[] args) {
         for (int k = 0; k < GRAMMARS; k++) {
-            compare(k % 4 == 0 ? spoiled(grammar()) : grammar());
+            compare(k % 4 == 0 ? samples.spoiled(samples.grammar()) : samples.grammar());
         }
         System.out.println(loaded + " grammars loaded, " + looping + " looping, " + wrong + " wrong; "
                 + texts + " texts, " + trees + " trees");
@@ -42,7 +40,7 @@ public final class OracleTest {
             loaded++;
             compareGrammar(grammar, oracle, x);
             for (int k = 0; k < 2; k++) {
-                compareText(grammar, oracle, text());
+                compareText(grammar, oracle, samples.text());
             }
         }
     }
@@ -112,61 +110,5 @@ public final class OracleTest {
             first.append(' ').append(nodes[k]);
         }
         return first.toString();
-    }
-
-    private static String grammar() {
-        String capitals = "SABCDEFG".substring(0, 1 + random.nextInt(random.nextInt(10) == 0 ? 8 : 5));
-        int rules = 1 + random.nextInt(random.nextInt(10) == 0 ? 14 : 9);
-        // Where many bodies are empty, many grammars loop: both kinds are wanted.
-        int letters = 1 + random.nextInt(4);
-        StringBuilder text = new StringBuilder();
-        for (int k = 0; k < rules; k++) {
-            if (random.nextInt(12) == 0) {
-                text.append(random.nextBoolean() ? "#x=\n" : "\n");
-            }
-            text.append(oneOf(capitals)).append('=');
-            int length = random.nextInt(5);
-            for (int n = 0; n < length; n++) {
-                text.append(random.nextInt(5) < letters ? oneOf("ab") : oneOf(capitals));
-            }
-            text.append(' ').append(weight()).append(' ').append(random.nextInt(4)).append('\n');
-        }
-        return text.toString();
-    }
-
-    private static String weight() {
-        int above = random.nextInt(random.nextBoolean() ? 4 : 1000);
-        int below = 1 + 2 * random.nextInt(500);
-        return random.nextInt(3) == 0 ? above + "/" + below : String.valueOf(above);
-    }
-
-    private static char oneOf(String characters) {
-        return characters.charAt(random.nextInt(characters.length()));
-    }
-
-    private static String spoiled(String grammar) {
-        StringBuilder text = new StringBuilder(grammar);
-        int at = random.nextInt(text.length());
-        switch (random.nextInt(3)) {
-            case 0:
-                text.deleteCharAt(at);
-                break;
-            case 1:
-                text.insert(at, oneOf(" =/#\n0129aAzZ"));
-                break;
-            default:
-                text.setCharAt(at, oneOf(" =/#\n0129aAzZ"));
-                break;
-        }
-        return text.toString();
-    }
-
-    private static String text() {
-        StringBuilder text = new StringBuilder();
-        int length = random.nextInt(random.nextInt(4) == 0 ? 9 : 5);
-        for (int k = 0; k < length; k++) {
-            text.append(oneOf("ab"));
-        }
-        return text.toString();
     }
 }
