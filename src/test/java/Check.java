@@ -27,6 +27,31 @@ final class Check {
         }
     }
 
+    /** A new object takes the grammar. */
+    WeightedTrees loads(String grammar, int rules) {
+        WeightedTrees x = new WeightedTrees();
+        due("load of " + grammar, rules, () -> load(x, grammar));
+        due("wrong() behind " + grammar, 0, x::wrong);
+        due("count(0) behind " + grammar, rules, () -> x.count(0));
+        return x;
+    }
+
+    /** A new object finds the grammar wrong at a line. */
+    void isWrong(String grammar, int line) {
+        WeightedTrees x = new WeightedTrees();
+        due("load of " + grammar, ARGUMENT, () -> load(x, grammar));
+        due("wrong() behind " + grammar, line, x::wrong);
+        due("count(0) behind " + grammar, -1, () -> x.count(0));
+    }
+
+    /** A new object finds that the grammar loops. */
+    void loops(String grammar) {
+        WeightedTrees x = new WeightedTrees();
+        due("load of " + grammar, STATE, () -> load(x, grammar));
+        due("wrong() behind " + grammar, 0, x::wrong);
+        due("count(0) behind " + grammar, -1, () -> x.count(0));
+    }
+
     void end() {
         System.out.println(calls + " answers, of which " + wrong + " are not as due");
         if (wrong != 0) {

@@ -18,19 +18,6 @@ public final class LoadTest {
         check.end();
     }
 
-    private static void loads(String grammar, int rules) {
-        WeightedTrees x = new WeightedTrees();
-        check.due("load of " + grammar, rules, () -> Check.load(x, grammar));
-        check.due("wrong() behind " + grammar, 0, x::wrong);
-    }
-
-    private static void isWrong(String grammar, int line) {
-        WeightedTrees x = new WeightedTrees();
-        check.due("load of " + grammar, Check.ARGUMENT, () -> Check.load(x, grammar));
-        check.due("wrong() behind " + grammar, line, x::wrong);
-        check.due("count(0) behind " + grammar, -1, () -> x.count(0));
-    }
-
     private static void rightLines() {
         String[] lines = {
             "S= 1 1", "A=a 1 1", "Z=z 1 1", "S=abcz 1 1", "S=ABCD 1 1", "S=aBcD 1 1", "S=AZaz 1 1",
@@ -39,7 +26,7 @@ public final class LoadTest {
             "S=a 8/107 1", "S=a 8/9 1",
         };
         for (String line : lines) {
-            loads(line, 1);
+            check.loads(line, 1);
         }
     }
 
@@ -56,89 +43,82 @@ public final class LoadTest {
             "S=a 1 0000", "S=a 1 -1", "S=a 1 x", "S=a 1 1/3", "S=a 1 /", "S=a 1 :", "S=a 1,1", "S=a,1 1", "S=a1 1",
         };
         for (String line : lines) {
-            isWrong(line, 1);
-            isWrong("S=a 1 1\n#\n\n" + line + "\nS=b 1 1", 4);
-            isWrong("S=a 1 1\n" + line, 2);
+            check.isWrong(line, 1);
+            check.isWrong("S=a 1 1\n#\n\n" + line + "\nS=b 1 1", 4);
+            check.isWrong("S=a 1 1\n" + line, 2);
         }
     }
 
     private static void linesAreCounted() {
-        isWrong("", 2);
-        isWrong("#", 2);
-        isWrong("\n", 3);
-        isWrong("#\n", 3);
-        isWrong("\n#a", 3);
-        isWrong("\n\n\n", 5);
-        isWrong("# S=a 1 1\n#S=a 1 1\n##", 4);
-        isWrong("x\ny", 1);
-        isWrong("\n\n\nx\n\ny", 4);
-        isWrong("S=a 1 1\n\nx", 3);
-        isWrong("S=a 1 1\nx\n", 2);
-        loads("\n\n#\nS=a 1 1\n\n", 1);
-        loads("S=a 1 1\nS=b 1 1\n", 2);
-        loads("#\nS=a 1 1\n#~ !\nS=b 1 1", 2);
-        loads("S=a 1 1\nS=a 1 1", 2);
+        check.isWrong("", 2);
+        check.isWrong("#", 2);
+        check.isWrong("\n", 3);
+        check.isWrong("#\n", 3);
+        check.isWrong("\n#a", 3);
+        check.isWrong("\n\n\n", 5);
+        check.isWrong("# S=a 1 1\n#S=a 1 1\n##", 4);
+        check.isWrong("x\ny", 1);
+        check.isWrong("\n\n\nx\n\ny", 4);
+        check.isWrong("S=a 1 1\n\nx", 3);
+        check.isWrong("S=a 1 1\nx\n", 2);
+        check.loads("\n\n#\nS=a 1 1\n\n", 1);
+        check.loads("S=a 1 1\nS=b 1 1\n", 2);
+        check.loads("#\nS=a 1 1\n#~ !\nS=b 1 1", 2);
+        check.loads("S=a 1 1\nS=a 1 1", 2);
     }
 
     private static void howManyRules() {
         for (int rules = 1; rules <= 12; rules++) {
-            loads("S=a 1 1\n".repeat(rules), rules);
+            check.loads("S=a 1 1\n".repeat(rules), rules);
         }
-        isWrong("S=a 1 1\n".repeat(13), 13);
-        isWrong("S=a 1 1\n".repeat(12) + "\n#\nS=a 1 1\n", 15);
-        isWrong("S=a 1 1\n".repeat(12) + "x", 13);
-        loads("S=a 1 1\n".repeat(12) + "\n#\n\n", 12);
+        check.isWrong("S=a 1 1\n".repeat(13), 13);
+        check.isWrong("S=a 1 1\n".repeat(12) + "\n#\nS=a 1 1\n", 15);
+        check.isWrong("S=a 1 1\n".repeat(12) + "x", 13);
+        check.loads("S=a 1 1\n".repeat(12) + "\n#\n\n", 12);
     }
 
     private static void howManyNonterminals() {
-        loads("A=BCDE 1 1\nF=aa 1 1", 2);
-        loads("A=BCDE 1 1\nB=Fa 1 1\nF=ABaF 1 1", 3);
-        isWrong("A=BCDE 1 1\nF=aa 1 1\nG=a 1 1", 3);
-        isWrong("A=BCDE 1 1\nF=aa 1 1\nA=aG 1 1", 3);
-        isWrong("A=BCDE 1 1\n\nF=aaaG 1 1\nA=a 1 1", 3);
-        isWrong("A=BCDE 1 1\nF=GHaa 1 1\nA=a 1 1", 2);
-        isWrong("A=a 1 1\nB=a 1 1\nC=a 1 1\nD=a 1 1\nE=a 1 1\nF=a 1 1\nG=a 1 1", 7);
-        loads("A=a 1 1\nB=a 1 1\nC=a 1 1\nD=a 1 1\nE=a 1 1\nF=a 1 1\nA=FEDC 1 1", 7);
-    }
-
-    private static void loopsWith(String grammar) {
-        WeightedTrees x = new WeightedTrees();
-        check.due("load of " + grammar, Check.STATE, () -> Check.load(x, grammar));
-        check.due("wrong() behind " + grammar, 0, x::wrong);
-        check.due("count(0) behind " + grammar, -1, () -> x.count(0));
+        check.loads("A=BCDE 1 1\nF=aa 1 1", 2);
+        check.loads("A=BCDE 1 1\nB=Fa 1 1\nF=ABaF 1 1", 3);
+        check.isWrong("A=BCDE 1 1\nF=aa 1 1\nG=a 1 1", 3);
+        check.isWrong("A=BCDE 1 1\nF=aa 1 1\nA=aG 1 1", 3);
+        check.isWrong("A=BCDE 1 1\n\nF=aaaG 1 1\nA=a 1 1", 3);
+        check.isWrong("A=BCDE 1 1\nF=GHaa 1 1\nA=a 1 1", 2);
+        check.isWrong("A=a 1 1\nB=a 1 1\nC=a 1 1\nD=a 1 1\nE=a 1 1\nF=a 1 1\nG=a 1 1", 7);
+        check.loads("A=a 1 1\nB=a 1 1\nC=a 1 1\nD=a 1 1\nE=a 1 1\nF=a 1 1\nA=FEDC 1 1", 7);
     }
 
     private static void loops() {
-        loopsWith("S=S 1 1");
-        loopsWith("S=S 0 1\nS=a 1 1");
-        loopsWith("S=a 1 1\nA=A 1 1");
-        loopsWith("S=SS 1 1\nS= 1 1");
-        loopsWith("S=SSSS 1 1\nS= 1 1");
-        loopsWith("S=SA 1 1\nA= 1 1");
-        loopsWith("S=AS 1 1\nA= 0 1");
-        loopsWith("A= 1 1\nS=AS 1 1");
-        loopsWith("A=S 1 1\nB=A 1 1\nS=B 1 1");
-        loopsWith("S=AASA 1 1\nA=BB 1 1\nB= 1 1");
-        loopsWith("S=A 1 1\nA=B 1 1\nB=S 1 1");
-        loopsWith("S=a 1 1\nB=C 1 1\nC=BD 1 1\nD= 1 1");
-        loopsWith("A=B 1 1\nB=C 1 1\nC=D 1 1\nD=E 1 1\nE=F 1 1\nF=A 1 1");
-        loopsWith("F=E 1 1\nE=D 1 1\nD=C 1 1\nC=B 1 1\nB=A 1 1\nA=F 1 1");
-        loopsWith("F=A 1 1\nA=C 1 1\nC=B 1 1\nB=E 1 1\nE=D 1 1\nD=A 1 1");
-        loopsWith("S=AS 1 1\nA=BBBB 1 1\nB=CC 1 1\nC=DD 1 1\nD=EE 1 1\nE= 1 1");
-        loopsWith("S=SE 1 1\nE=DD 1 1\nD=CC 1 1\nC=BB 1 1\nB=A 1 1\nA= 1 1");
+        check.loops("S=S 1 1");
+        check.loops("S=S 0 1\nS=a 1 1");
+        check.loops("S=a 1 1\nA=A 1 1");
+        check.loops("S=SS 1 1\nS= 1 1");
+        check.loops("S=SSSS 1 1\nS= 1 1");
+        check.loops("S=SA 1 1\nA= 1 1");
+        check.loops("S=AS 1 1\nA= 0 1");
+        check.loops("A= 1 1\nS=AS 1 1");
+        check.loops("A=S 1 1\nB=A 1 1\nS=B 1 1");
+        check.loops("S=AASA 1 1\nA=BB 1 1\nB= 1 1");
+        check.loops("S=A 1 1\nA=B 1 1\nB=S 1 1");
+        check.loops("S=a 1 1\nB=C 1 1\nC=BD 1 1\nD= 1 1");
+        check.loops("A=B 1 1\nB=C 1 1\nC=D 1 1\nD=E 1 1\nE=F 1 1\nF=A 1 1");
+        check.loops("F=E 1 1\nE=D 1 1\nD=C 1 1\nC=B 1 1\nB=A 1 1\nA=F 1 1");
+        check.loops("F=A 1 1\nA=C 1 1\nC=B 1 1\nB=E 1 1\nE=D 1 1\nD=A 1 1");
+        check.loops("S=AS 1 1\nA=BBBB 1 1\nB=CC 1 1\nC=DD 1 1\nD=EE 1 1\nE= 1 1");
+        check.loops("S=SE 1 1\nE=DD 1 1\nD=CC 1 1\nC=BB 1 1\nB=A 1 1\nA= 1 1");
     }
 
     private static void doesNotLoop() {
-        loads("S=SS 1 1\nS=a 1 1", 2);
-        loads("S=SA 1 1\nA=a 1 1", 2);
-        loads("S=Sa 1 1\nS= 1 1", 2);
-        loads("S=aS 1 1\nS= 1 1", 2);
-        loads("S=aSA 1 1\nA= 1 1\nS= 1 1", 3);
-        loads("S=AA 1 1\nA=S 1 1", 2);
-        loads("S=SAB 1 1\nA= 1 1\nB=b 1 1", 3);
-        loads("S=AB 1 1\nA=aB 1 1\nB=A 1 1", 3);
-        loads("A=B 1 1\nB=C 1 1\nC=D 1 1\nD=E 1 1\nE=F 1 1\nF=aA 1 1", 6);
-        loads("S=AAAA 1 1\nA=BBBB 1 1\nB= 1 1\nS=A 1 1\nS=B 1 1", 5);
+        check.loads("S=SS 1 1\nS=a 1 1", 2);
+        check.loads("S=SA 1 1\nA=a 1 1", 2);
+        check.loads("S=Sa 1 1\nS= 1 1", 2);
+        check.loads("S=aS 1 1\nS= 1 1", 2);
+        check.loads("S=aSA 1 1\nA= 1 1\nS= 1 1", 3);
+        check.loads("S=AA 1 1\nA=S 1 1", 2);
+        check.loads("S=SAB 1 1\nA= 1 1\nB=b 1 1", 3);
+        check.loads("S=AB 1 1\nA=aB 1 1\nB=A 1 1", 3);
+        check.loads("A=B 1 1\nB=C 1 1\nC=D 1 1\nD=E 1 1\nE=F 1 1\nF=aA 1 1", 6);
+        check.loads("S=AAAA 1 1\nA=BBBB 1 1\nB= 1 1\nS=A 1 1\nS=B 1 1", 5);
     }
 
     private static void takesThePlaceOfTheOneBefore() {
@@ -180,7 +160,7 @@ public final class LoadTest {
     }
 
     private static void wrongGoesAheadOfLoops() {
-        isWrong("S=S 1 1\nx", 2);
+        check.isWrong("S=S 1 1\nx", 2);
     }
 
     private static void nothingIsLeftOfTheOneThatLooped() {
