@@ -211,10 +211,14 @@ final class Oracle {
         return forest.count > most ? null : forest;
     }
 
-    /** The trees in which one t is a leaf are those for a letter that only t becomes; null if they are too many. */
+    /** The trees in which one t is a leaf are those of this grammar for *, a letter that only t becomes. */
+    Oracle withLeaf(int t) {
+        return new Oracle(this, new Rule(nonterminals.charAt(t), "*", 1, 0));
+    }
+
+    /** Null if the trees are too many. */
     Long unit(int s, int t, int most) {
-        Oracle more = new Oracle(this, new Rule(nonterminals.charAt(t), "*", 1, 0));
-        Forest forest = more.forest("*", most);
+        Forest forest = withLeaf(t).forest("*", most);
         return forest == null ? null : Long.valueOf(forest.inside(s, 0, 1));
     }
 

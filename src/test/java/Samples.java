@@ -28,6 +28,24 @@ final class Samples {
         return text.toString();
     }
 
+    /** Six nonterminals, of which each leads to later ones and seldom to others: has large trees. */
+    String layered() {
+        StringBuilder text = new StringBuilder();
+        int most = random.nextBoolean() ? 3 : 100;
+        for (int k = 0; k < 11; k++) {
+            // Some heads have one rule alone, as THE TREE would else be small most times.
+            int head = k < 5 ? k : random.nextInt(6);
+            int length = k < 5 ? 3 + random.nextInt(2) : random.nextInt(4);
+            text.append("SABCDE".charAt(head)).append('=');
+            for (int n = 0; n < length; n++) {
+                boolean isLater = head < 5 && (k < 5 || random.nextInt(3) != 0);
+                text.append(isLater ? oneOf("SABCDEE".substring(head + 1, head + 3)) : oneOf(n == 0 ? "ab" : "abSABCDE"));
+            }
+            text.append(' ').append(weight()).append(' ').append(random.nextInt(k < 5 ? 2 : most)).append('\n');
+        }
+        return text.append("E= 3 1").toString();
+    }
+
     private String weight() {
         int above = random.nextInt(random.nextBoolean() ? 4 : 1000);
         int below = 1 + 2 * random.nextInt(500);
@@ -53,8 +71,11 @@ final class Samples {
     }
 
     String text() {
+        return text(random.nextInt(random.nextInt(4) == 0 ? 9 : 5));
+    }
+
+    String text(int length) {
         StringBuilder text = new StringBuilder();
-        int length = random.nextInt(random.nextInt(4) == 0 ? 9 : 5);
         for (int k = 0; k < length; k++) {
             text.append(oneOf("ab"));
         }
